@@ -278,7 +278,7 @@ public final class InterfaceRules {
 
         boolean takesSort(int t, int sort) {
             switch (sort) {
-                case ABSTRACT: return kind[t] != CLASS_KIND;
+                case ABSTRACT: return kind[t] == FACE_KIND || kind[t] == OPEN_KIND;
                 case FINAL: return kind[t] != FACE_KIND;
                 default: return sort == BODY || sort == STATIC || sort == PRIVATE;
             }
@@ -796,13 +796,16 @@ public final class InterfaceRules {
         /** The sum of a call of a name on an object of class t. The holdings must be fresh. */
         int perform(int t, int name) {
             int sum = 0;
+            int steps = 0;
             int next = holdings.runner(t, name);
             last = NONE;
-            for (entered = 0; next >= 0 && entered < MOST_ENTERED; entered++) {
+            while (next >= 0 && steps < MOST_ENTERED) {
+                steps++;
                 sum += members.added[next];
                 last = next;
                 next = following(next, t);
             }
+            entered = steps;
             end = next >= 0 ? DEEP : next;
             hasPerformed = true;
             return sum;

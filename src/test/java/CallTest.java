@@ -214,6 +214,8 @@ public final class CallTest {
         check.call("DEEP: most", x, 1, 4, 30000, Kinds.DEEP, 30, 4);
         x.does(4, -1000, Kinds.THIS, 0, 4);
         check.call("DEEP: least", x, 1, 4, -30000, Kinds.DEEP, 30, 4);
+        x.does(0, 2, Kinds.THIS, 0, 0);
+        check.call("DEEP: member 0", x, 0, 0, 60, Kinds.DEEP, 30, 0);
     }
 
     private static void stopsBehindTheThirtieth() {

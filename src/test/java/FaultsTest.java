@@ -192,8 +192,10 @@ public final class FaultsTest {
         check.faults("10: SUPER runs nothing, UNDONE", x, 3, 10, 5);
         x.does(5, 0, Kinds.SUPER, 0, 9);
         check.faults("10: SUPER runs nothing, MISSING", x, 3, 10, 5);
-        x.does(5, 0, Kinds.SUPER, 0, 1);
-        check.faults("10: SUPER runs ROOT's", x, 3);
+        for (int name = 0; name < 3; name++) {
+            x.does(5, 0, Kinds.SUPER, 0, name);
+            check.faults("10: SUPER runs ROOT's " + name, x, 3);
+        }
         x.does(3, 0, Kinds.SUPER, 0, 0);
         check.faults("10: SUPER in a face", x, 1, 10, 3);
         x.does(3, 0, Kinds.THIS, 0, 0);

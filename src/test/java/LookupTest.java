@@ -205,8 +205,13 @@ public final class LookupTest {
         check.due("changes: the SUPER's SUPER has its own", x.runs(4, 3), 4);
         x.extend(4, 0);
         check.due("changes: no longer", x.runs(4, 3), -5);
+        for (int name = 0; name < 3; name++) {
+            check.due("changes: no type 5 yet", x.runs(4, name), name);
+        }
         x.type(Kinds.CLASS);
-        check.due("changes: a new class has ROOT's", x.runs(5, 1), 1);
+        for (int name = 0; name < 3; name++) {
+            check.due("changes: a new class has ROOT's", x.runs(5, name), name);
+        }
     }
 
     private static void functional() {
