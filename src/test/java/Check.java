@@ -2,12 +2,18 @@
 final class Check {
     private int asked;
     private int wrong;
+    private String sentence = "";
+
+    /** Names the sentence of the document that the next answers are asked for. */
+    void about(String next) {
+        sentence = next + ": ";
+    }
 
     void due(String what, int got, int want) {
         asked++;
         if (got != want) {
             wrong++;
-            System.out.println(what + " answered " + got + ", due is " + want);
+            System.out.println(sentence + what + " answered " + got + ", due is " + want);
         }
     }
 
@@ -15,7 +21,7 @@ final class Check {
         asked++;
         if (!isSo) {
             wrong++;
-            System.out.println("not so: " + what);
+            System.out.println("not so: " + sentence + what);
         }
     }
 

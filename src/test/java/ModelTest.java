@@ -2,10 +2,12 @@ import java.util.Arrays;
 
 /** Long runs of calls, the same ones each time, with the answers of the class and of PlainModel side by side. */
 public final class ModelTest {
-    private static final int RUNS = 1500, CALLS = 512;
+    // An object is used for 512 calls at most; the last ones of a run ask for what the others built.
+    private static final int RUNS = 4000, CALLS = 512, ASKING = 150;
     private static final String[] BUILDING = {"type", "extend", "face", "face", "member", "member", "member", "does", "does"};
     private static final String[] ALL = {"type", "extend", "face", "seal", "member", "does", "does", "constant", "has", "runs",
         "faults", "faults", "functional", "sees", "value", "below", "call", "call", "latest", "told"};
+    private static final String[] ASKS = {"has", "has", "runs", "faults", "faults", "faults", "call", "latest", "functional", "sees"};
     private static final Check check = new Check();
     private static long state;
 
@@ -34,32 +36,14 @@ public final class ModelTest {
         int typesFirst = below(16);
         int building = 60 + below(200);
         for (int k = 0; k < CALLS; k++) {
-            String method = k < typesFirst ? "type" : k < building ? pick(BUILDING) : pick(ALL);
+            String[] some = k < building ? BUILDING : k < CALLS - ASKING ? ALL : ASKS;
+            String method = k < typesFirst ? "type" : pick(some);
             int[] arguments = arguments(method, names, y.told(0), y.told(1));
             int got = ask(x, method, arguments);
             int want = ask(y, method, arguments);
             check.due("run " + run + ", call " + k + ", " + method + Arrays.toString(arguments), got, want);
             if (got != want) {
                 return;
-            }
-        }
-        compareAll(run, x, y);
-    }
-
-    private static void compareAll(int run, InterfaceRules x, PlainModel y) {
-        for (int t = 0; t < y.told(0); t++) {
-            for (int i = Kinds.NONE; i < y.faults(t, Kinds.NONE, 0); i++) {
-                check.due("run " + run + ", fault " + i + " of " + t, x.faults(t, i, 0), y.faults(t, i, 0));
-                check.due("run " + run + ", fault's number " + i + " of " + t, x.faults(t, i, 1), y.faults(t, i, 1));
-            }
-            for (int name = 0; name < 10; name++) {
-                for (int i = Kinds.NONE; i < y.has(t, name, Kinds.NONE); i++) {
-                    check.due("run " + run + ", has " + i + " of " + t + " " + name, x.has(t, name, i), y.has(t, name, i));
-                }
-                check.due("run " + run + ", call of " + t + " " + name, x.call(t, name), y.call(t, name));
-                for (int what = 0; what < 3; what++) {
-                    check.due("run " + run + ", latest of " + t + " " + name, x.latest(what), y.latest(what));
-                }
             }
         }
     }
