@@ -209,13 +209,15 @@ public final class InterfaceRules {
         switch (what) {
             case 0: return types.count;
             case 1: return members.count;
-            case 2: return countFaultless();
+            case 2:
+                holdings.refreshAll();
+                return countFaultless();
             default: return BAD;
         }
     }
 
+    // The holdings must be fresh.
     private int countFaultless() {
-        holdings.refreshAll();
         int faultless = 0;
         for (int t = 0; t < types.count; t++) {
             if (faultList.collect(t) == 0) {
@@ -582,7 +584,7 @@ public final class InterfaceRules {
                 }
                 alive++;
                 body = sort == BODY ? m : body;
-                abstractOfClass |= ofClass;
+                abstractOfClass = abstractOfClass || ofClass;
             }
             if (alive == 0) {
                 return MISSING;

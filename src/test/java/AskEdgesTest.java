@@ -12,6 +12,8 @@ public final class AskEdgesTest {
         hasOfAnEmptyName();
         hasTheMost();
         hasEachOnce();
+        hasFewerThanBefore();
+        hasNoStaticAnyMore();
         runsTypesAndNames();
         runsMissing();
         runsOneAlone();
@@ -107,6 +109,38 @@ public final class AskEdgesTest {
         check.has("still twelve", x, 15, 3, 3, 4, 5, 6, 7, 8, 9, 10, 11, 12, 13, 14);
         x.member(15, 3, Kinds.PRIVATE, 0);
         check.due("a FAULT for each", x.faults(15, Kinds.NONE, 0), 12);
+    }
+
+    private static void hasFewerThanBefore() {
+        check.about("Promise 9: how many, behind a change that takes one away");
+        InterfaceRules x = Kinds.with(Kinds.FACE, Kinds.FACE, Kinds.FACE, Kinds.FACE);
+        x.member(1, 3, Kinds.ABSTRACT, 0);
+        x.member(2, 3, Kinds.ABSTRACT, 2);
+        x.member(3, 3, Kinds.ABSTRACT, 1);
+        x.face(4, 3);
+        x.face(4, 1);
+        x.face(4, 2);
+        check.has("three", x, 4, 3, 5, 3, 4);
+        check.due("none SERVES for all", x.functional(4), Kinds.NONE);
+        x.face(3, 2);
+        check.has("two: one is LOST", x, 4, 3, 5, 3);
+        check.due("1 SERVES for 0", x.functional(4), 5);
+        check.faults("nothing is against it any more", x, 4);
+    }
+
+    private static void hasNoStaticAnyMore() {
+        check.about("Promise 9: how many, behind a change that takes the only one away");
+        InterfaceRules x = Kinds.with(Kinds.CLASS, Kinds.CLASS, Kinds.CLASS);
+        x.member(1, 3, Kinds.STATIC, 0);
+        x.member(3, 4, Kinds.BODY, 0);
+        x.does(4, 1, Kinds.BY_STATIC, 2, 3);
+        x.extend(2, 1);
+        check.has("its SUPER's", x, 2, 3, 3);
+        check.call("it is entered", x, 3, 4, 1, 0, 2, 3);
+        x.extend(2, 0);
+        check.has("none", x, 2, 3);
+        check.call("it is MISSING", x, 3, 4, 1, Kinds.MISSING, 1, 4);
+        check.faults("that is against the caller", x, 3, 12, 4);
     }
 
     private static void runsTypesAndNames() {

@@ -2,7 +2,9 @@ import java.lang.reflect.Constructor;
 import java.lang.reflect.Field;
 import java.lang.reflect.Method;
 import java.lang.reflect.Modifier;
+import java.util.ArrayList;
 import java.util.Arrays;
+import java.util.List;
 import java.util.Set;
 import java.util.TreeSet;
 
@@ -18,6 +20,8 @@ public final class FaceTest {
         constructor();
         methods();
         nestedClasses();
+        namesOfMethods();
+        staticFields();
         check.end();
     }
 
@@ -70,6 +74,39 @@ public final class FaceTest {
             check.holds(each + " is static", Modifier.isStatic(modifiers));
             check.holds(each + " is not public", !Modifier.isPublic(modifiers) && !Modifier.isProtected(modifiers));
             check.holds(each + " has some twenty fields at most", each.getDeclaredFields().length <= 20);
+        }
+    }
+
+    private static List<Class<?>> allClasses() {
+        List<Class<?>> all = new ArrayList<>(Arrays.asList(InterfaceRules.class.getDeclaredClasses()));
+        all.add(InterfaceRules.class);
+        return all;
+    }
+
+    private static void namesOfMethods() {
+        Set<String> names = new TreeSet<>();
+        for (String method : METHODS) {
+            names.add(method.substring(0, method.indexOf('/')));
+        }
+        for (Class<?> each : allClasses()) {
+            for (Method method : each.getDeclaredMethods()) {
+                boolean isOfTheFace = each == InterfaceRules.class && Modifier.isPublic(method.getModifiers());
+                check.holds(method + " bears no public one's name", isOfTheFace || !names.contains(method.getName()));
+                check.holds(method + " takes seven at most", method.getParameterCount() <= 7);
+            }
+        }
+    }
+
+    private static void staticFields() {
+        Set<Class<?>> allowed = Set.of(int.class, long.class, boolean.class, char.class, String.class,
+            int[].class, long[].class, char[].class, byte[].class);
+        for (Class<?> each : allClasses()) {
+            for (Field field : each.getDeclaredFields()) {
+                if (Modifier.isStatic(field.getModifiers())) {
+                    check.holds(field + " is final", Modifier.isFinal(field.getModifiers()));
+                    check.holds(field + " is a constant", allowed.contains(field.getType()));
+                }
+            }
         }
     }
 }
